@@ -105,8 +105,6 @@ public final class FaceTest {
             String sought = Character.isLetter(word.charAt(0)) || word.charAt(0) == '[' ? "\\b" + word + "\\b" : word;
             Due.holds("not in the source: " + word, !Pattern.compile(sought).matcher(code).find());
         }
-        for (char c : source.toCharArray()) {
-            Due.holds("characters 0 to 255", c < 256);
-        }
+        Due.holds("characters 0 to 255", source.chars().allMatch(c -> c < 256));
     }
 }

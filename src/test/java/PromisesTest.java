@@ -207,6 +207,15 @@ public final class PromisesTest {
         Due.is("7 earlier week stays", x.price(2), 998);
         Due.is("7 ahead of week 0", x.price(-1), 100);
 
+        for (int i = 0; i < 6; i++) {
+            x.go(5000);
+        }
+        x.go(199 * 168 - x.told(0) * 168 - x.told(1));
+        x.buy(0, 1, 6);
+        Due.is("7 the last week", x.price(199), 6);
+        Due.is("7 the week ahead of it", x.price(198), 5);
+        Due.is("7 there is no week 200", x.price(200), UNKNOWN);
+
         BreadLaw y = withBakers(1);
         for (int i = 0; i < 200; i++) {
             y.buy(0, 100000, 1000);
@@ -392,6 +401,9 @@ public final class PromisesTest {
         Due.is("12 emptied lots give nothing", x.batch(8, 3), 1);
         Due.is("12 gave", x.batch(8, 10), 2);
         Due.is("12 the batch ahead still tells its own", x.batch(6, 10), 4);
+        Due.is("12 and not what the next one took", x.batch(6, 16), NONE);
+        Due.is("12 and not what the next one took", x.batch(6, 17), NONE);
+        Due.is("12 the second batch neither", x.batch(7, 14), NONE);
 
         BreadLaw y = withBakers(1);
         for (int i = 0; i < 100; i++) {
@@ -888,6 +900,13 @@ public final class PromisesTest {
         Due.is("25 never", x.foretell(1), NONE);
         Due.is("25 nothing changed", x.told(6) + x.told(7), 10000000);
         Due.is("25 the ration is as it was", x.told(8), 100);
+
+        BreadLaw once = new BreadLaw();
+        once.harvest(1, 200);
+        once.go(168);
+        once.mouths(1, 100);
+        Due.is("25 a harvest that came does not come again", once.foretell(100), 3);
+        Due.is("26 a harvest that came does not come again", once.order(4), 50);
 
         BreadLaw y = new BreadLaw();
         for (int i = 0; i < 10; i++) {
