@@ -18,8 +18,11 @@ public final class FaceTest {
         "step 3", "inForce 1", "due 2", "bake 4", "search 0", "turn 0", "rules 2", "record 2", "lot 2", "batch 2",
         "found 2", "about 2", "store 1", "mouths 2", "ration 1", "harvest 2", "foretell 1", "order 1", "told 1"};
     private static final String[] RULED_OUT = {"throw", "throws", "try", "catch", "finally", "synchronized", "assert",
-        "import", "package", "->", "::", "System", "Thread", "Random", "hashCode", "toString", "protected", "var",
-        "[a-z]+Exact", "Object", "double", "float"};
+        "package", "protected", "native", "volatile", "Object", "Thread", "Random", "nanoTime", "currentTimeMillis",
+        "getenv", "hashCode", "identityHashCode", "[a-z]+Exact", "java\\.(io|nio|net|time|lang)"};
+    private static final String IMPORT = "import java\\.util\\.(ArrayList|List|Arrays|Iterator);";
+    private static final Set<String> LIBRARY = Set.of("String", "StringBuilder", "Integer", "ArrayList", "List");
+    private static final int MOST_LINES = 60;
 
     public static void main(String[] args) throws IOException {
         Class<?> face = BreadLaw.class;
@@ -28,6 +31,7 @@ public final class FaceTest {
         constructorsAreTheFace(face);
         fieldsAreTheFace(face);
         innerClassesAreStatic(face);
+        typesAreAllowed(face);
         sourceKeepsTheRules();
         Due.end();
     }
@@ -50,9 +54,12 @@ public final class FaceTest {
         Due.holds("the document's methods: " + found, found.equals(new TreeSet<>(Arrays.asList(FACE))));
         for (Class<?> type : withInnerClasses(face)) {
             for (Method method : type.getDeclaredMethods()) {
-                boolean isFace = type == face && Modifier.isPublic(method.getModifiers());
-                Due.holds("a name of the face: " + method, isFace || !names.contains(method.getName()));
+                boolean isHidden = Modifier.isPrivate(method.getModifiers());
+                Due.holds("a name of the face: " + method, !isHidden || !names.contains(method.getName()));
                 Due.holds("seven parameters: " + method, method.getParameterCount() <= 7);
+            }
+            for (Constructor<?> made : type.getDeclaredConstructors()) {
+                Due.holds("seven parameters: " + made, made.getParameterCount() <= 7);
             }
         }
     }
@@ -84,6 +91,9 @@ public final class FaceTest {
     }
 
     private static void innerClassesAreStatic(Class<?> face) {
+        for (Class<?> inner : face.getNestMembers()) {
+            Due.holds("no local or anonymous class: " + inner, inner == face || inner.isMemberClass());
+        }
         for (Class<?> inner : face.getDeclaredClasses()) {
             Due.holds("static: " + inner, Modifier.isStatic(inner.getModifiers()));
             Due.holds("not public: " + inner, !Modifier.isPublic(inner.getModifiers()));
@@ -92,19 +102,67 @@ public final class FaceTest {
     }
 
     private static Class<?>[] withInnerClasses(Class<?> face) {
-        Class<?>[] inner = face.getDeclaredClasses();
-        Class<?>[] all = Arrays.copyOf(inner, inner.length + 1);
-        all[inner.length] = face;
-        return all;
+        return face.getNestMembers();
+    }
+
+    private static void typesAreAllowed(Class<?> face) {
+        for (Class<?> type : withInnerClasses(face)) {
+            for (Field field : type.getDeclaredFields()) {
+                Due.holds("a type of rule 3: " + field, isAllowed(face, field.getType()));
+            }
+            for (Method method : type.getDeclaredMethods()) {
+                boolean isVoid = method.getReturnType() == void.class;
+                Due.holds("a type of rule 3: " + method, isVoid || isAllowed(face, method.getReturnType()));
+                for (Class<?> parameter : method.getParameterTypes()) {
+                    Due.holds("a type of rule 3: " + method, isAllowed(face, parameter));
+                }
+            }
+        }
+    }
+
+    private static boolean isAllowed(Class<?> face, Class<?> type) {
+        Class<?> held = type.isArray() ? type.getComponentType() : type;
+        if (held.isArray()) {
+            return held.getComponentType().isPrimitive();
+        }
+        if (held.isPrimitive() || held.getNestHost() == face) {
+            return true;
+        }
+        return !type.isArray() && LIBRARY.contains(type.getSimpleName());
     }
 
     private static void sourceKeepsTheRules() throws IOException {
         String source = Files.readString(Path.of(SOURCE));
         String code = source.replaceAll("(?s)/\\*.*?\\*/", "").replaceAll("//[^\n]*", "");
         for (String word : RULED_OUT) {
-            String sought = Character.isLetter(word.charAt(0)) || word.charAt(0) == '[' ? "\\b" + word + "\\b" : word;
-            Due.holds("not in the source: " + word, !Pattern.compile(sought).matcher(code).find());
+            isNotIn(code, "\\b" + word + "\\b");
         }
+        isNotIn(code, "::");
+        isNotIn(code, "\\bstatic\\s*\\{");
+        isNotIn(code, "System\\.(?!arraycopy)");
+        isNotIn(code.replaceAll("(\\bcase\\b[^;{}]*?|\\bdefault\\s*)->", ""), "->");
+        isNotIn(code.replaceAll(IMPORT, ""), "\\bimport\\b");
         Due.holds("characters 0 to 255", source.chars().allMatch(c -> c < 256));
+        methodsAreShort(source.split("\n"));
+    }
+
+    private static void isNotIn(String code, String sought) {
+        Due.holds("not in the source: " + sought, !Pattern.compile(sought).matcher(code).find());
+    }
+
+    private static void methodsAreShort(String[] lines) {
+        for (int i = 0; i < lines.length; i++) {
+            String indent = lines[i].substring(0, lines[i].length() - lines[i].stripLeading().length());
+            int end = i;
+            while (isMethodHead(lines[i]) && end < lines.length && !lines[end].equals(indent + "}")) {
+                end++;
+            }
+            Due.holds("some sixty lines: " + lines[i], end - i < MOST_LINES);
+        }
+    }
+
+    private static boolean isMethodHead(String line) {
+        boolean isLoopOrChoice = line.matches(" +(if|for|while|switch|\\}).*");
+        return !isLoopOrChoice && line.matches(" {4,8}\\w.*\\(.*\\) \\{");
     }
 }

@@ -6,8 +6,11 @@ import java.util.Random;
 /** Random runs of 512 calls on BreadLaw and PlainModel: each answer must be the same. */
 public final class ModelTest {
     private static final int RUNS = 1500, CALLS = 512;
-    private static final int[] ODD = {Integer.MIN_VALUE, -7, -2, -1, 0, 1, 2, 3, 10, 100, 199, 200, 1001,
-        100000001, Integer.MAX_VALUE};
+    // Each bound of the document with its neighbours, and what is far outside.
+    private static final int[] ODD = {Integer.MIN_VALUE, -7, -2, -1, 0, 1, 2, 3, 4, 5, 6, 7, 8, 9, 10, 11, 99, 100,
+        101, 167, 168, 169, 198, 199, 200, 201, 299, 300, 301, 499, 500, 501, 999, 1000, 1001, 1999, 2000, 2001, 4999,
+        5000, 5001, 9999, 10000, 10001, 99999, 100000, 100001, 9999999, 10000000, 10000001, 100000001,
+        Integer.MAX_VALUE};
 
     public static void main(String[] args) throws ReflectiveOperationException {
         Method[] calls = BreadLaw.class.getDeclaredMethods();
@@ -62,7 +65,7 @@ public final class ModelTest {
         int[] wanted = sensible(call.getName(), model, random);
         Object[] given = new Object[wanted.length];
         for (int i = 0; i < wanted.length; i++) {
-            boolean isOdd = random.nextInt(25) == 0;
+            boolean isOdd = random.nextInt(15) == 0;
             given[i] = isOdd ? ODD[random.nextInt(ODD.length)] : wanted[i];
         }
         return given;

@@ -37,28 +37,6 @@ public final class PromisesTest {
         Due.end();
     }
 
-    private static BreadLaw withBakers(int n) {
-        BreadLaw x = new BreadLaw();
-        for (int i = 0; i < n; i++) {
-            x.baker();
-        }
-        return x;
-    }
-
-    /** One baker with 93750 ounces of flour, ground of record 0. */
-    private static BreadLaw withFlour() {
-        BreadLaw x = withBakers(1);
-        x.buy(0, 100000, 100);
-        x.grind(0);
-        return x;
-    }
-
-    private static void fillBook(BreadLaw x) {
-        for (int i = x.told(4); i < 200; i++) {
-            Due.is("fillBook " + i, x.buy(0, 1, 1), i);
-        }
-    }
-
     private static void promise1NewObject() {
         Due.is("1 UNKNOWN", BreadLaw.UNKNOWN, -1);
         Due.is("1 OUTSIDE", BreadLaw.OUTSIDE, -2);
@@ -123,7 +101,7 @@ public final class PromisesTest {
     }
 
     private static void promise4Buy() {
-        BreadLaw x = withBakers(2);
+        BreadLaw x = Town.withBakers(2);
         Due.is("4 no baker", x.buy(2, 1, 1), UNKNOWN);
         Due.is("4 no baker", x.buy(-1, 0, 0), UNKNOWN);
         for (int far : FAR) {
@@ -139,7 +117,7 @@ public final class PromisesTest {
         Due.is("4 least", x.buy(0, 1, 1), 0);
         Due.is("4 most", x.buy(1, 100000, 1000), 1);
         Due.is("4 lots", x.about(1, 1), 1);
-        fillBook(x);
+        Town.fillBook(x);
         Due.is("4 full", x.buy(0, 1, 1), FULL);
         Due.is("4 outside ahead of full", x.buy(0, 0, 1), OUTSIDE);
         Due.is("4 unknown ahead of full", x.buy(2, 1, 1), UNKNOWN);
@@ -148,7 +126,7 @@ public final class PromisesTest {
     }
 
     private static void promise5Grind() {
-        BreadLaw x = withBakers(1);
+        BreadLaw x = Town.withBakers(1);
         x.buy(0, 33, 1);
         x.buy(0, 100000, 1);
         x.buy(0, 1, 1);
@@ -186,7 +164,7 @@ public final class PromisesTest {
     }
 
     private static void promise7Price() {
-        BreadLaw x = withBakers(2);
+        BreadLaw x = Town.withBakers(2);
         Due.is("7 ahead of week 0", x.price(-1), 100);
         Due.is("7 without lots", x.price(0), 100);
         Due.is("7 not yet", x.price(1), UNKNOWN);
@@ -216,7 +194,7 @@ public final class PromisesTest {
         Due.is("7 the week ahead of it", x.price(198), 5);
         Due.is("7 there is no week 200", x.price(200), UNKNOWN);
 
-        BreadLaw y = withBakers(1);
+        BreadLaw y = Town.withBakers(1);
         for (int i = 0; i < 200; i++) {
             y.buy(0, 100000, 1000);
         }
@@ -300,7 +278,7 @@ public final class PromisesTest {
     }
 
     private static void promise11Due() {
-        BreadLaw x = withBakers(1);
+        BreadLaw x = Town.withBakers(1);
         Due.is("11 without a text", x.due(0, 0), 0);
         x.text(0, 100, 33, 300, 0);
         Due.is("11 without a step", x.due(0, 0), 0);
@@ -337,7 +315,7 @@ public final class PromisesTest {
     }
 
     private static void promise12Bake() {
-        BreadLaw x = withFlour();
+        BreadLaw x = Town.withFlour(1);
         x.baker();
         Due.is("12 no baker", x.bake(2, 0, 1, 1), UNKNOWN);
         Due.is("12 no baker", x.bake(-1, -1, 0, 0), UNKNOWN);
@@ -366,7 +344,7 @@ public final class PromisesTest {
         x.buy(0, 100, 100);
         Due.is("12 corn is no flour", x.bake(0, 1, 1, 1), NO);
         x.grind(4);
-        fillBook(x);
+        Town.fillBook(x);
         Due.is("12 full", x.bake(0, 1, 1, 1), FULL);
         Due.is("12 full ahead of no", x.bake(0, 1, 500, 2000), FULL);
         Due.is("12 outside ahead of full", x.bake(0, 1, 500, 2001), OUTSIDE);
@@ -374,7 +352,7 @@ public final class PromisesTest {
     }
 
     private static void promise12BakeOutOfSeveralLots() {
-        BreadLaw x = withBakers(2);
+        BreadLaw x = Town.withBakers(2);
         x.dish(100);
         for (int i = 0; i < 6; i++) {
             x.buy(i % 2, 10 + i, 100);
@@ -405,7 +383,7 @@ public final class PromisesTest {
         Due.is("12 and not what the next one took", x.batch(6, 17), NONE);
         Due.is("12 the second batch neither", x.batch(7, 14), NONE);
 
-        BreadLaw y = withBakers(1);
+        BreadLaw y = Town.withBakers(1);
         for (int i = 0; i < 100; i++) {
             y.buy(0, 2, 100);
             y.grind(i);
@@ -431,26 +409,26 @@ public final class PromisesTest {
         Due.is("13 not short", x.about(0, 4), 0);
         Due.is("13 searches", x.about(0, 3), 1);
 
-        BreadLaw y = withBakers(3);
+        BreadLaw y = Town.withBakers(3);
         int[] turns = {1, 0, 2, 2};
         for (int i = 0; i < turns.length; i++) {
             y.search();
             Due.is("13 turn " + i, y.record(i, 3), turns[i]);
         }
-        fillBook(y);
+        Town.fillBook(y);
         int next = y.turn();
         Due.is("13 full", y.search(), FULL);
         Due.is("13 the turn is still the same", y.turn(), next);
         Due.is("13 records", y.told(4), 200);
 
-        BreadLaw full = withBakers(3);
-        fillBook(full);
+        BreadLaw full = Town.withBakers(3);
+        Town.fillBook(full);
         Due.is("13 full", full.search(), FULL);
         Due.is("13 no row was drawn for it", full.turn(), 1);
     }
 
     private static void promise13SearchFinesAndBars() {
-        BreadLaw x = withFlour();
+        BreadLaw x = Town.withFlour(1);
         x.text(0, 100, 100, 100, 0);
         x.step(0, 0, 1000);
         x.go(100);
@@ -485,12 +463,12 @@ public final class PromisesTest {
         x.search();
         Due.is("13 four fines at most", x.found(10, 5), 4000);
         Due.is("13 barred again", x.about(0, 6), 5);
-        fillBook(x);
+        Town.fillBook(x);
         Due.is("12 barred ahead of full", x.bake(0, 0, 1, 1), STATE);
     }
 
     private static void promise13SearchLooksAtTextsNow() {
-        BreadLaw x = withFlour();
+        BreadLaw x = Town.withFlour(1);
         x.bake(0, 1, 1, 1000);
         x.go(168 + 10);
         x.search();
@@ -530,14 +508,14 @@ public final class PromisesTest {
     private static void promise14Turn() {
         BreadLaw none = new BreadLaw();
         Due.is("14 no bakers", none.turn(), STATE);
-        BreadLaw one = withBakers(1);
+        BreadLaw one = Town.withBakers(1);
         for (int i = 0; i < 3; i++) {
             Due.is("14 one baker", one.turn(), 0);
             one.search();
         }
         // Rows as the words draw them, worked out here once more with long arithmetic.
         long[] s = {1};
-        BreadLaw x = withBakers(8);
+        BreadLaw x = Town.withBakers(8);
         for (int round = 0; round < 5; round++) {
             int[] row = drawn(8, s);
             for (int i = 0; i < 8; i++) {
@@ -547,7 +525,7 @@ public final class PromisesTest {
             }
         }
         long[] t = {1};
-        BreadLaw y = withBakers(4);
+        BreadLaw y = Town.withBakers(4);
         int[] first = drawn(4, t);
         Due.is("14 first of four", y.turn(), first[0]);
         y.search();
@@ -555,7 +533,7 @@ public final class PromisesTest {
         y.baker();
         int[] second = drawn(6, t);
         Due.is("14 one new row for the bakers that came", y.turn(), second[0]);
-        fillBook(y);
+        Town.fillBook(y);
         Due.is("14 a full book", y.turn(), second[0]);
     }
 
@@ -575,7 +553,7 @@ public final class PromisesTest {
     }
 
     private static void promise15Rules() {
-        BreadLaw x = withFlour();
+        BreadLaw x = Town.withFlour(1);
         Due.is("15 dry", x.rules(-1, 0), OUTSIDE);
         Due.is("15 dry", x.rules(6, 0), OUTSIDE);
         Due.is("15 fine", x.rules(0, -1), OUTSIDE);
@@ -606,7 +584,7 @@ public final class PromisesTest {
     }
 
     private static void promise16Record() {
-        BreadLaw x = withBakers(2);
+        BreadLaw x = Town.withBakers(2);
         x.go(170);
         x.buy(1, 10, 10);
         x.go(166);
@@ -628,13 +606,13 @@ public final class PromisesTest {
             Due.is("16 far", x.record(far, 0), UNKNOWN);
             Due.is("16 far", x.record(0, far), OUTSIDE);
         }
-        fillBook(x);
+        Town.fillBook(x);
         Due.is("16 the last", x.record(199, 0), 1);
         Due.is("16 behind the last", x.record(200, 0), UNKNOWN);
     }
 
     private static void promise17Lot() {
-        BreadLaw x = withBakers(1);
+        BreadLaw x = Town.withBakers(1);
         x.buy(0, 1600, 7);
         int[] bought = {1600, 7, 0, 0};
         int[] ground = {1600, 7, 1, 1500};
@@ -661,7 +639,7 @@ public final class PromisesTest {
     }
 
     private static void promise18Batch() {
-        BreadLaw x = withFlour();
+        BreadLaw x = Town.withFlour(1);
         x.bake(0, 2, 3, 500);
         x.search();
         int[] want = {2, 3, 500, 1};
@@ -689,7 +667,7 @@ public final class PromisesTest {
     }
 
     private static void promise19Found() {
-        BreadLaw x = withFlour();
+        BreadLaw x = Town.withFlour(1);
         x.search();
         int[] without = {NONE, 0, 0, 0, 0, 0};
         for (int what = 0; what < 6; what++) {
@@ -719,7 +697,7 @@ public final class PromisesTest {
     }
 
     private static void promise20About() {
-        BreadLaw x = withBakers(1);
+        BreadLaw x = Town.withBakers(1);
         int[] first = {0, 0, 0, 0, 0, 0, 0, NONE};
         for (int what = 0; what < 8; what++) {
             Due.is("20 at first " + what, x.about(0, what), first[what]);
@@ -955,7 +933,7 @@ public final class PromisesTest {
     }
 
     private static void promise27Told() {
-        BreadLaw x = withBakers(3);
+        BreadLaw x = Town.withBakers(3);
         x.text(0, 100, 100, 100, 0);
         x.text(0, 100, 100, 100, 0);
         x.buy(0, 160, 1);

@@ -61,13 +61,14 @@ final class Questions {
         rows.add(new Row("ration", 0, 0, (x, i) -> x.ration(1)));
         rows.add(new Row("bakers that come", 0, 8, (x, i) -> x.baker()));
         rows.add(new Row("turns", 0, 77, (x, i) -> searching(x, i)));
-        rows.add(new Row("turns, a baker came", 0, 77, (x, i) -> i == 0 ? x.baker() : searching(x, i)));
+        rows.add(new Row("turns, bakers came", 0, 77, (x, i) -> i < 2 ? x.baker() : searching(x, i)));
         rows.add(new Row("weeks", 0, 79, (x, i) -> i % 4 == 0 ? x.go(168) : x.told(5 + i % 4)));
         rows.add(new Row("grinding", 0, 200, (x, i) -> x.grind(i)));
         rows.add(new Row("baking", 0, 39, (x, i) -> baking(x, i)));
         rows.add(new Row("buying", 0, 23, (x, i) -> i % 3 < 2 ? x.buy(i / 3, 7 + i, i + 1) : x.price(x.told(0))));
         rows.add(new Row("texts", 0, 6, (x, i) -> x.text(i, 100, 100, 100, 0)));
         rows.add(new Row("steps", 0, 53, (x, i) -> x.step(i / 9, 0, 1)));
+        rows.add(new Row("dues of later weeks", 0, 59, (x, i) -> laterDue(x, i)));
         rows.add(new Row("store", 0, 10, (x, i) -> x.store(10000000)));
         rows.add(new Row("harvests", 0, 10, (x, i) -> x.harvest(199, 1)));
     }
@@ -87,6 +88,14 @@ final class Questions {
     private static int baking(BreadLaw x, int i) {
         int what = i % 5;
         return what == 0 ? x.bake(i / 5, 0, 1, 50) : x.batch(x.told(4) - 1, 9 + what);
+    }
+
+    private static int laterDue(BreadLaw x, int i) {
+        switch (i % 3) {
+            case 0: return x.buy(0, 100000, 1 + 16 * i);
+            case 1: return x.go(168);
+            default: return x.due(0, x.told(0));
+        }
     }
 
     /** Asks two objects the questions of a row, and stops at the first answer that is not the same. */

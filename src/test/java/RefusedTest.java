@@ -8,6 +8,8 @@ import java.util.function.ToIntFunction;
 public final class RefusedTest {
     private static final int UNKNOWN = -1, OUTSIDE = -2, STATE = -3, FULL = -4, NO = -5;
     private static final int LEAST = Integer.MIN_VALUE, MOST = Integer.MAX_VALUE;
+    // What a full book and the longest row of questions leave of 512 calls.
+    private static final int MANY = 61;
 
     public static void main(String[] args) {
         go();
@@ -42,14 +44,19 @@ public final class RefusedTest {
     }
 
     private static void refused(String where, Supplier<BreadLaw> made, ToIntFunction<BreadLaw> call, int want) {
+        refusedTimes(1, where, made, call, want);
+        refusedTimes(MANY, where + ", many times", made, call, want);
+    }
+
+    private static void refusedTimes(int times, String where, Supplier<BreadLaw> made, ToIntFunction<BreadLaw> call,
+            int want) {
         for (Questions.Row row : Questions.ROWS) {
             BreadLaw x = made.get();
-            Due.is(where, call.applyAsInt(x), want);
+            for (int i = 0; i < times; i++) {
+                Due.is(where, call.applyAsInt(x), want);
+            }
             Questions.areAlike(where, row, x, made.get());
         }
-        BreadLaw again = made.get();
-        call.applyAsInt(again);
-        Due.is(where + ", and once more", call.applyAsInt(again), want);
     }
 
     private static void busyRefuses(String where, ToIntFunction<BreadLaw> call, int want) {
@@ -103,6 +110,18 @@ public final class RefusedTest {
         busyRefuses("grind a search", x -> x.grind(7), NO);
         busyRefuses("grind twice, flour is left", x -> x.grind(1), STATE);
         busyRefuses("grind twice, flour was taken", x -> x.grind(3), STATE);
+        grindAgainAndAgain();
+    }
+
+    private static void grindAgainAndAgain() {
+        BreadLaw x = Town.busy();
+        for (int i = 0; i < 300; i++) {
+            Due.is("grind again and again", x.grind(0), STATE);
+        }
+        Due.is("another lot", x.grind(2), 200);
+        Due.is("its flour", x.bake(2, 0, 1, 1800), 9);
+        Due.is("it gave", x.batch(9, 10), 2);
+        Due.is("all of it", x.batch(9, 11), 1800);
     }
 
     private static void dish() {
@@ -158,6 +177,8 @@ public final class RefusedTest {
         }
         refused("a ninth step", Town::withSixTexts, x -> x.step(0, 0, 1), FULL);
         refused("a ninth step", Town::withSixTexts, x -> x.step(0, 1000, 1000), FULL);
+        refused("a ninth step, of the only text", Town::withEightSteps, x -> x.step(0, 0, 1), FULL);
+        refused("a ninth step, of the only text", Town::withEightSteps, x -> x.step(0, 1000, 1000), FULL);
     }
 
     private static void inForce() {

@@ -356,14 +356,14 @@ public final class SearchEdgesTest {
         x.bake(0, 1, 1, 2000);
         x.search();
         Due.is("baked in week 1, price of week 0 is 500", x.found(4, 3), 250);
-        Town.goTo(x, 1, 167);
+        x.buy(0, 1, 1);
         x.go(1);
         x.search();
-        Due.is("searched in week 2", x.record(5, 1), 2);
-        Due.is("the text of week 2 is not asked", x.found(5, 3), 250);
+        Due.is("searched in week 2", x.record(6, 1), 2);
+        Due.is("neither the text of week 2 nor the price of week 1", x.found(6, 3), 250);
         x.bake(0, 1, 1, 2000);
         x.search();
-        Due.is("baked in week 2", x.found(7, 3), 1000);
+        Due.is("baked in week 2", x.found(8, 3), 1000);
     }
 
     private static void textsAreAsTheyAreNow() {

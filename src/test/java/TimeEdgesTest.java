@@ -26,6 +26,7 @@ public final class TimeEdgesTest {
         millerKeepsNothingOfASmallLot();
         millerKeepsTheMost();
         flourIsInTheOrderOfGrinding();
+        lotIsFlourWhenItWasGround();
         Due.end();
     }
 
@@ -343,5 +344,21 @@ public final class TimeEdgesTest {
         }
         Due.is("the other's is whole", x.lot(1, 3), 10);
         Due.is("it has no more", x.about(0, 0), 0);
+    }
+
+    private static void lotIsFlourWhenItWasGround() {
+        BreadLaw x = Town.withBakers(1);
+        x.buy(0, 1600, 1);
+        Due.is("not ground", x.lot(0, 2), 0);
+        Due.is("no flour", x.lot(0, 3), 0);
+        Due.is("no flour of the baker", x.about(0, 0), 0);
+        x.grind(0);
+        Due.is("ground", x.lot(0, 2), 1);
+        Due.is("flour", x.lot(0, 3), 1500);
+        Due.is("flour of the baker", x.about(0, 0), 1500);
+        x.bake(0, 0, 1, 1500);
+        Due.is("ground, though nothing is left", x.lot(0, 2), 1);
+        Due.is("nothing is left", x.lot(0, 3), 0);
+        Due.is("its ounces are as bought", x.lot(0, 0), 1600);
     }
 }

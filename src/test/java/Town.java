@@ -24,7 +24,7 @@ final class Town {
         return x;
     }
 
-    /** One baker with flour (record 0) and a batch (record 1) of one loaf; a text asks for 1000 ounces from week 0 on. */
+    /** One baker with flour (record 0) and a batch (record 1) of one loaf; from week 0 on 1000 ounces are due. */
     static BreadLaw withLoaf(int weight, int allowance) {
         BreadLaw x = withFlour(1);
         x.text(0, 100, 100, 100, allowance);
@@ -88,10 +88,14 @@ final class Town {
         return x;
     }
 
+    /** The row of turns is drawn, and three were searched by it. */
     static BreadLaw withEightBakers() {
         BreadLaw x = busy();
         for (int i = 3; i < 8; i++) {
             x.baker();
+        }
+        for (int i = 0; i < 3; i++) {
+            x.search();
         }
         return x;
     }
@@ -103,6 +107,15 @@ final class Town {
             x.text(3 * i, 100, 100, 100, 0);
         }
         for (int i = 2; i < 8; i++) {
+            x.step(0, 100 * i, 900 - 100 * i);
+        }
+        return x;
+    }
+
+    static BreadLaw withEightSteps() {
+        BreadLaw x = withBakers(1);
+        x.text(0, 100, 100, 100, 0);
+        for (int i = 0; i < 8; i++) {
             x.step(0, 100 * i, 900 - 100 * i);
         }
         return x;
